@@ -27,7 +27,7 @@ public final class SpunPlates {
     private final Walker walker = new Walker();
     private final Sticks best = new Sticks();
     private final SettingUp settingUp = new SettingUp();
-    private final Exact exact = new Exact();
+    private final AllWays ways = new AllWays();
 
     public SpunPlates() {
     }
@@ -222,30 +222,30 @@ public final class SpunPlates {
     // ---- 3 exactly
 
     public int kept() {
-        int here = exact.take(stage);
+        int here = ways.take(stage);
         if (here < 0) {
             return STATE;
         }
-        exact.openPage();
-        return exact.measure(here) == Exact.EVER ? 1 : 0;
+        ways.openPage();
+        return ways.measure(here) == AllWays.EVER ? 1 : 0;
     }
 
     public int longest() {
-        int here = exact.take(stage);
+        int here = ways.take(stage);
         if (here < 0) {
             return STATE;
         }
-        exact.openPage();
-        int most = exact.measure(here);
-        return most == Exact.EVER ? NONE : most;
+        ways.openPage();
+        int most = ways.measure(here);
+        return most == AllWays.EVER ? NONE : most;
     }
 
     public int step() {
-        int here = exact.take(stage);
+        int here = ways.take(stage);
         if (here < 0) {
             return STATE;
         }
-        int thing = exact.bestThing(here);
+        int thing = ways.bestThing(here);
         return thing < 0 ? NONE : thing;
     }
 
@@ -253,11 +253,11 @@ public final class SpunPlates {
         if (!within(n, 1, 9)) {
             return OUTSIDE;
         }
-        int here = exact.take(stage);
+        int here = ways.take(stage);
         if (here < 0) {
             return STATE;
         }
-        int ticks = exact.soonestBow(here, n);
+        int ticks = ways.soonestBow(here, n);
         return ticks < 0 ? NONE : ticks;
     }
 
@@ -265,15 +265,15 @@ public final class SpunPlates {
         if (!within(n, 1, 30) || !within(what, 0, 1)) {
             return OUTSIDE;
         }
-        int here = exact.take(stage);
+        int here = ways.take(stage);
         if (here < 0) {
             return STATE;
         }
-        int worth = exact.mostWorth(here, n);
+        int worth = ways.mostWorth(here, n);
         if (worth < 0) {
             return NONE;
         }
-        return what == 0 ? Exact.gaspsOf(worth) : Exact.firstThingOf(worth);
+        return what == 0 ? AllWays.gaspsOf(worth) : AllWays.firstThingOf(worth);
     }
 
     public int load(int part) {
@@ -632,6 +632,8 @@ public final class SpunPlates {
         int goal;
         int wound;
         int lastGoal;
+        /** All turns as they were so long ago as he sees late. */
+        int lateTurns;
         /** Behind each tick: all turns, and the rest of what must come again for a round. */
         final int[] turnsLog = new int[LAST_TICK + 1];
         final int[] manLog = new int[LAST_TICK + 1];
@@ -689,6 +691,7 @@ public final class SpunPlates {
         }
 
         int takeGoal(int rule) {
+            lateTurns = turnsLog[logged(ticks - on.settings[LAG])];
             switch (rule) {
                 case WORST: return worst();
                 case NEAR:
@@ -749,7 +752,8 @@ public final class SpunPlates {
         }
 
         int far(int plate) {
-            return Math.abs(on.places[plate] - on.settings[MAN]);
+            int way = on.places[plate] - on.settings[MAN];
+            return way < 0 ? -way : way;
         }
 
         /** The turn of a plate as he sees it: late, unless it is before him. */
@@ -757,7 +761,7 @@ public final class SpunPlates {
             if (on.places[plate] == on.settings[MAN]) {
                 return on.turns[plate];
             }
-            return turnsLog[logged(ticks - on.settings[LAG])] >> (4 * plate) & 15;
+            return lateTurns >> (4 * plate) & 15;
         }
 
         /** Ahead of the beginning all was as at the beginning. */
@@ -921,7 +925,7 @@ public final class SpunPlates {
      * All ways of one to three plates. A position is one number: three bits for the man's place,
      * then four for the turn of each plate; only positions in which all stand are ever reached.
      */
-    private static final class Exact {
+    private static final class AllWays {
         static final int MOST = 3;
         static final int POSITIONS = 1 << (3 + 4 * MOST);
         static final int EVER = 65535;
@@ -1063,8 +1067,7 @@ public final class SpunPlates {
                 }
                 if (!isMarked(to)) {
                     mark(to, OPEN);
-                    list[depth] = to << 3;
-                    depth++;
+                    depth = put(depth, to << 3);
                 } else if (isOpen(to) || valueOf(to) == EVER) {
                     return markPath(depth);
                 } else {
@@ -1072,6 +1075,15 @@ public final class SpunPlates {
                 }
             }
             return valueOf(from);
+        }
+
+        /** Puts an entry behind so many of the list; each position comes there once, so it has room. */
+        private int put(int size, int entry) {
+            if (size >= list.length) {
+                return size;
+            }
+            list[size] = entry;
+            return size + 1;
         }
 
         private void raise(int position, int value) {
@@ -1139,8 +1151,7 @@ public final class SpunPlates {
                 int to = after(position, thing);
                 if (to >= 0 && !isMarked(to)) {
                     mark(to, 0);
-                    list[filled] = to;
-                    filled++;
+                    filled = put(filled, to);
                 }
             }
             return filled;
@@ -1192,13 +1203,15 @@ public final class SpunPlates {
         /** Puts a position with its worth into a row of so many, where each stands once: how many then. */
         private int keepBest(int[] row, int size, int position, int worth) {
             int entry = worth * POSITIONS + position;
-            if (!isMarked(position)) {
+            if (!isMarked(position) && size < row.length) {
                 mark(position, size);
                 row[size] = entry;
                 return size + 1;
             }
             int index = valueOf(position);
-            row[index] = Math.max(row[index], entry);
+            if (index < size) {
+                row[index] = Math.max(row[index], entry);
+            }
             return size;
         }
 
