@@ -206,17 +206,18 @@ public final class SpunPlates {
     }
 
     public int sticks(int rule, int i) {
-        if (!isRule(rule) || i < -1) {
+        if (!isRule(rule)) {
             return OUTSIDE;
         }
         if (stage.standing() == 0) {
             return STATE;
         }
-        if (i >= stage.count) {
+        // The document tells no range for i: where there is no plate, below or beyond, there is none.
+        if (i != -1 && !stage.has(i)) {
             return NONE;
         }
         best.find(stage, walker, rule);
-        return i < 0 ? orNone(best.lasting) : best.order[i];
+        return i == -1 ? orNone(best.lasting) : best.order[i];
     }
 
     // ---- 3 exactly

@@ -335,7 +335,7 @@ final class Model {
   }
 
   int sticks(int rule, int i) {
-    if (noRule(rule) || i < -1) return OUTSIDE;
+    if (noRule(rule)) return OUTSIDE;
     if (now.bits() == 0) return STATE;
     int n = now.plates.size();
     int[] places = new int[n];
@@ -354,7 +354,7 @@ final class Model {
       }
     }
     if (i == -1) return most == 1000000 ? NONE : most;
-    return i < n ? best.get(i) : NONE;
+    return i >= 0 && i < n ? best.get(i) : NONE;
   }
 
   // ---- 3

@@ -132,7 +132,7 @@ public final class ModelTest {
   }
 
   private void askOrders() {
-    int a = num(0, 3), b = num(-1, 5);
+    int a = num(0, 3), b = num(-2, 6);
     same("sticks", a + ", " + b, x.sticks(a, b), m.sticks(a, b));
     a = r.nextInt(2) == 0 ? num(0, 999999) : orderOf(m.told(0));
     same("setUp", "" + a, x.setUp(a), m.setUp(a));
@@ -165,7 +165,7 @@ public final class ModelTest {
       int p = r.nextInt(3), v = 1 + r.nextInt(14);
       if (r.nextInt(3) == 0) same("turn", p + ", " + v, x.turn(p, v), m.turn(p, v));
       askRules();
-      int a = num(0, 3), b = num(-1, 3);
+      int a = num(0, 3), b = num(-2, 3);
       same("sticks", a + ", " + b, x.sticks(a, b), m.sticks(a, b));
       write();
       askPlain();

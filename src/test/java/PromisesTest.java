@@ -397,13 +397,22 @@ public final class PromisesTest {
     due("15 no third", x.sticks(0, 2), NONE);
     due("15 no such place at all", x.sticks(0, MOST), NONE);
     due("15 places stay", x.about(0, 0), 0);
-    due("15 below", x.sticks(0, -2), OUTSIDE);
+    due("15 below the first", x.sticks(0, -2), NONE);
+    due("15 far below", x.sticks(3, LEAST), NONE);
     due("15 rule", x.sticks(4, 0), OUTSIDE);
+    due("15 rule below", x.sticks(-1, 0), OUTSIDE);
+    due("15 outside ahead of none", x.sticks(4, -2), OUTSIDE);
+    due("15 outside ahead of none, beyond", x.sticks(-1, 2), OUTSIDE);
     x.turn(0, 0);
     x.turn(1, 0);
     due("15 none stands", x.sticks(0, 0), STATE);
     due("15 none stands, no such", x.sticks(0, 5), STATE);
-    due("15 outside ahead of state", x.sticks(0, -2), OUTSIDE);
+    due("15 none stands, below", x.sticks(0, -2), STATE);
+    due("15 none stands, far below", x.sticks(3, LEAST), STATE);
+    due("15 outside ahead of state", x.sticks(4, -2), OUTSIDE);
+    due("15 outside ahead of state, rule below", x.sticks(-1, -1), OUTSIDE);
+    due("15 no plates, below", new SpunPlates().sticks(0, -2), STATE);
+    due("15 no plates, beyond", new SpunPlates().sticks(0, MOST), STATE);
     SpunPlates y = with(3, 9, 1, 0, 9, 1);
     y.turn(1, 0);
     // 0 at place 0 is kept for ever; and it is the first order
