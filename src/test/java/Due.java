@@ -18,6 +18,21 @@ final class Due {
     due(what, holds ? 1 : 0, 1);
   }
 
+  /** A call that does not end is a failure, too: the test is cut off after so many minutes. */
+  static void endWithin(int minutes) {
+    Thread watch = new Thread(() -> {
+      try {
+        Thread.sleep(minutes * 60_000L);
+      } catch (InterruptedException e) {
+        return;
+      }
+      System.out.println("a call does not end");
+      Runtime.getRuntime().halt(1);
+    });
+    watch.setDaemon(true);
+    watch.start();
+  }
+
   static void end(String test) {
     System.out.println(test + ": " + asked + " looked at, " + wrong + " not as due");
     if (wrong != 0) System.exit(1);

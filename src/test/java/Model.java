@@ -5,6 +5,7 @@ import java.util.HashSet;
 import java.util.List;
 import java.util.Map;
 import java.util.Set;
+import java.util.regex.Pattern;
 
 /**
  * The document once more, written in another way and without thought for speed or room: what the class
@@ -79,6 +80,7 @@ final class Model {
   }
 
   private static final String THINGS = ".<>w";
+  private static final Pattern SHOW = Pattern.compile("([.<>w][2-9]?)*");
 
   Scene now = new Scene();
   final Scene[] images = new Scene[2];
@@ -151,7 +153,7 @@ final class Model {
   /** The longest beginning of the pad that is a show, or goes on as one, ends at the fault. */
   int fault() {
     for (int i = 1; i <= pad.length(); i++) {
-      if (!pad.substring(0, i).matches("([.<>w][2-9]?)*")) return i - 1;
+      if (!SHOW.matcher(pad.substring(0, i)).matches()) return i - 1;
     }
     return NONE;
   }
