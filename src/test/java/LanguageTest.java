@@ -6,7 +6,9 @@ import java.nio.file.Files;
 import java.nio.file.Path;
 import java.util.Arrays;
 import java.util.HashSet;
+import java.util.Map;
 import java.util.Set;
+import java.util.TreeMap;
 import java.util.TreeSet;
 import java.util.regex.Matcher;
 import java.util.regex.Pattern;
@@ -21,6 +23,14 @@ public final class LanguageTest {
       "\\bassert\\b", "->", "::", "\\bpackage\\b", "Exact\\(", "\\bSystem\\.(?!arraycopy\\b)", "\\bobject\\b",
       "\\bObject\\b", "\\bhashCode\\b", "\\btoString\\b", "\\bwhile \\(true\\)", "for \\(;;\\)", "\\bvolatile\\b",
       "\\bnative\\b", "@\\w+", "\\bvar\\b", "\\bfinalize\\b", "\\bThread\\b"};
+
+  private static final Set<Class<?>> STATIC_TYPES = Set.of(int.class, long.class, boolean.class, char.class, String.class,
+      int[].class, long[].class, char[].class, byte[].class);
+  /** What of the library the class may name, with a dot behind it. */
+  private static final String LIBRARY = "System\\.arraycopy|Arrays\\.(fill|copyOf|copyOfRange)"
+      + "|(Math|Integer|Long)\\.(min|max|abs|compare|bitCount|floorDiv|floorMod|signum|numberOfTrailingZeros)";
+  private static final Pattern METHOD = Pattern.compile(
+      "\n( *)(?:[\\w\\[\\]]+ )+(\\w+)\\([^)]*\\) \\{\n(.*?)\n\\1\\}", Pattern.DOTALL);
 
   private static void face() {
     Set<String> open = new TreeSet<>();
@@ -61,8 +71,12 @@ public final class LanguageTest {
   private static void fieldsAndMethods(Class<?> c) {
     int own = 0;
     for (Field f : c.getDeclaredFields()) {
-      if (Modifier.isStatic(f.getModifiers())) Due.dueTrue(f + " is final", Modifier.isFinal(f.getModifiers()));
-      else own++;
+      if (Modifier.isStatic(f.getModifiers())) {
+        Due.dueTrue(f + " is final", Modifier.isFinal(f.getModifiers()));
+        Due.dueTrue(f + " is of a kind that rule 5 allows", STATIC_TYPES.contains(f.getType()));
+      } else {
+        own++;
+      }
     }
     Due.dueTrue(c + " has some twenty fields", own <= 20);
     for (Method m : c.getDeclaredMethods()) Due.dueTrue(m + " takes seven at most", m.getParameterCount() <= 7);
@@ -84,17 +98,72 @@ public final class LanguageTest {
     Due.dueTrue("plain signs", text.chars().allMatch(c -> c == '\n' || (c >= 32 && c < 127)));
   }
 
+  /** Names with a great first letter and a dot behind them are the library's, or classes inside. */
+  private static void library(String text) {
+    Set<String> inside = new HashSet<>();
+    for (Class<?> c : SpunPlates.class.getDeclaredClasses()) inside.add(c.getSimpleName());
+    String body = text.replaceAll("import [^;]*;", "");
+    Matcher m = Pattern.compile("(?<![\\w.])([A-Z]\\w*[a-z]\\w*)\\.(\\w+)").matcher(body);
+    while (m.find()) Due.dueTrue(m.group(), inside.contains(m.group(1)) || m.group().matches(LIBRARY));
+    Matcher made = Pattern.compile("\\bnew (\\w+)").matcher(body);
+    while (made.find()) Due.dueTrue(made.group(), inside.contains(made.group(1)) || made.group(1).equals("int"));
+  }
+
+  /** Rule 5: rows that all objects share are written out where they are declared, and never changed. */
+  private static void sharedRows(String text) {
+    Matcher m = Pattern.compile("static final \\w+\\[\\] (\\w+) = (.)").matcher(text);
+    while (m.find()) {
+      Due.dueTrue(m.group(1) + " is written out", m.group(2).equals("{"));
+      String written = "\\b" + m.group(1) + "\\[[^;]*\\] *([-+*/|&^]?=[^=]|\\+\\+|--)|fill\\(" + m.group(1) + "\\b";
+      Due.dueTrue(m.group(1) + " is never changed", !Pattern.compile(written).matcher(text).find());
+    }
+    Due.dueTrue("no static block", !Pattern.compile("\\bstatic \\{").matcher(text).find());
+    Due.dueTrue("no texts to be joined", text.indexOf('"') < 0);
+    Due.dueTrue("no broken numbers", !Pattern.compile("\\b(double|float)\\b").matcher(text).find());
+  }
+
+  /** For each method's name its body; methods of one name in several classes are taken together. */
+  private static Map<String, String> bodies(String text) {
+    Map<String, String> all = new TreeMap<>();
+    Matcher m = METHOD.matcher(text);
+    for (int from = 0; m.find(from); from = m.start() + 1) all.merge(m.group(2), m.group(3), (a, b) -> a + "\n" + b);
+    return all;
+  }
+
   private static void lengths(String text) {
-    Matcher m = Pattern.compile("\n( *)(?:[\\w\\[\\]]+ )+(\\w+)\\([^)]*\\) \\{\n(.*?)\n\\1\\}", Pattern.DOTALL).matcher(text);
-    int from = 0;
+    Matcher m = METHOD.matcher(text);
     int found = 0;
-    while (m.find(from)) {
+    for (int from = 0; m.find(from); from = m.start() + 1) {
       found++;
       int lines = m.group(3).split("\n").length;
       if (lines > 60) Due.dueTrue(m.group(2) + " has " + lines + " lines", false);
-      from = m.start() + 1;
     }
     Due.dueTrue("methods were found", found > 60);
+  }
+
+  /** How many calls stand open at most from here on; more than a hundred: it comes back to itself. */
+  private static int depth(String name, Map<String, String> bodies, int open) {
+    if (open > 100) return open;
+    int deepest = open;
+    for (String other : bodies.keySet()) {
+      if (deepest > 100) break;
+      if (Pattern.compile("\\b" + other + "\\(").matcher(bodies.get(name)).find()) {
+        deepest = Math.max(deepest, depth(other, bodies, open + 1));
+      }
+    }
+    return deepest;
+  }
+
+  /** Rules 8 and 11: the class has no recursion at all, and its calls go at most eight deep. */
+  private static void depths(String text) {
+    Map<String, String> bodies = bodies(text);
+    for (String call : FACE) {
+      String name = call.substring(0, call.indexOf(' '));
+      Due.dueTrue(name + " was found", bodies.containsKey(name));
+      if (!bodies.containsKey(name)) continue;
+      int depth = depth(name, bodies, 1);
+      Due.dueTrue(name + " goes " + depth + " deep", depth <= 8);
+    }
   }
 
   public static void main(String[] args) throws IOException {
@@ -102,7 +171,10 @@ public final class LanguageTest {
     classes();
     String text = withoutComments(Files.readString(Path.of("src/main/java/SpunPlates.java")));
     words(text);
+    library(text);
+    sharedRows(text);
     lengths(text);
+    depths(text);
     Due.end("LanguageTest");
   }
 }

@@ -369,6 +369,66 @@ public final class RulesEdgesTest {
     z.set(1, 6);
     z.set(2, 1);
     due("both GOALS once, and both ways", z.round(ROUND, 1), 4);
+    eachPartOfAll();
+    highNumbers();
+    farOnes();
+  }
+
+  /** A stage for a round: the settings but SETS, then place, full, falls and turn of each plate. */
+  private static SpunPlates stage(int man, int gives, int patience, int lag, int[]... plates) {
+    SpunPlates x = new SpunPlates();
+    for (int p = 0; p < plates.length; p++) {
+      due("plate " + p, x.plate(plates[p][0], plates[p][1], plates[p][2]), p);
+      due("turn of " + p, x.turn(p, plates[p][3]), plates[p][1]);
+    }
+    int[] settings = {man, gives, patience, lag};
+    for (int w = 0; w < 4; w++) x.set(w, settings[w]);
+    return x;
+  }
+
+  private static void dueRound(String why, SpunPlates x, int rule, int first, int again) {
+    due(why + ", the tick", x.round(rule, 0), first);
+    due(why + ", again by", x.round(rule, 1), again);
+    due(why + ", none falls", x.lasts(rule), NONE);
+  }
+
+  /** In each of these two ticks differ in one part alone: without it the round would come sooner. */
+  private static void eachPartOfAll() {
+    // Behind 1 and 7 all is alike (10 8, seen late 11 9, GOAL 1), but he is at 4 and at 6.
+    SpunPlates x = stage(3, 6, 5, 1, new int[] {7, 12, 1, 11}, new int[] {5, 13, 1, 9});
+    dueRound("the PLACE is a part of it", x, WORST, 2, 6);
+    // 11 13 14 14: he has wound it each time, and has no GOAL.
+    dueRound("TURNS are a part of it", stage(1, 3, 1, 0, new int[] {1, 15, 1, 11}), NEAR, 2, 1);
+    // Behind 1 he has come to it at 3; behind 2 it was wound from 3 to 4 and is at 3 again, without GOAL.
+    dueRound("the GOAL is a part of it", stage(5, 5, 1, 0, new int[] {4, 4, 1, 4}), NEAR, 2, 1);
+    // Behind 1 he has come to it at 2; behind 2 to 9 he has wound it 1 to 8 times, and it is at 2 still.
+    dueRound("WOUND is a part of it", stage(6, 1, 9, 0, new int[] {7, 5, 1, 3}), LEFT, 2, 9);
+    dueRound("the last GOAL is a part of it", stage(6, 3, 3, 0, new int[] {6, 6, 1, 5}), WORST, 1, 1);
+    // 10 9 9 9 9, without GOAL from behind 2 on: behind 2 he sees 10 late, and behind 3; behind 4 no more.
+    dueRound("TURNS since are a part of it", stage(6, 2, 8, 3, new int[] {5, 10, 1, 10}), WORST, 4, 1);
+  }
+
+  /** Fallen ones ahead of those that stand: GOALS with high numbers are told apart, too. */
+  private static void highNumbers() {
+    int[] fallen = {4, 5, 1, 0}, second = {5, 10, 2, 0}, third = {1, 4, 2, 0};
+    // Behind 1 he is at 3 with GOAL 3, behind 5 without GOAL, 4 the last one; turns 4 6 both times.
+    SpunPlates x = stage(4, 6, 9, 0, fallen, second, third, new int[] {2, 7, 1, 5}, new int[] {3, 7, 1, 7});
+    dueRound("GOAL 3, and 4 the last GOAL", x, NEAR, 2, 4);
+    // He comes to it at 4, winds it to 7 (4 again), winds it again and has no GOAL.
+    SpunPlates y = stage(3, 3, 2, 0, fallen, second, third, new int[] {2, 12, 3, 7});
+    dueRound("3 the last GOAL, WOUND once or not", y, ROUND, 2, 2);
+  }
+
+  /** The farthest that were found among many millions of starts, by a program of its own. */
+  private static void farOnes() {
+    SpunPlates x = stage(5, 3, 1, 3, new int[] {2, 15, 1, 6}, new int[] {1, 15, 1, 7});
+    due("a late fall", x.lasts(LEFT), 113);
+    due("no round", x.round(LEFT, 0), NONE);
+    due("no round", x.round(LEFT, 1), NONE);
+    dueRound("a late round", stage(3, 6, 2, 2, new int[] {3, 15, 1, 9}, new int[] {2, 10, 1, 2},
+        new int[] {4, 14, 1, 8}), NEAR, 129, 23);
+    dueRound("a long round", stage(4, 6, 2, 3, new int[] {3, 12, 1, 12}, new int[] {4, 15, 1, 15},
+        new int[] {5, 10, 1, 5}), WORST, 40, 59);
   }
 
   private static void roundRefusals() {
